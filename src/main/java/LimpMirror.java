@@ -217,22 +217,16 @@ public final class LimpMirror {
         }
         Pane pane = paneOf(k);
         int place = deeds.size();
-        if (kind == LATE && pane instanceof Late) {
-            return pane.delay() == 0 ? NONE : room.shown(pane, deeds, place);
+        if (!pane.isOf(kind)) {
+            return refuse(UNLIKE);
         }
-        if (kind == THIN && pane instanceof Thin) {
-            return noughtsAtDeeds(pane);
+        switch (kind) {
+            case LATE: return pane.delay() == 0 ? NONE : room.shown(pane, deeds, place);
+            case THIN: return noughtsAtDeeds(pane);
+            case THOUGHT: return Integer.bitCount(room.stepsSeenAs(pane, place, 0));
+            case LIMP: return Limp.placesToLimp(place);
+            default: return room.seen(pane, place, 0);
         }
-        if (kind == THOUGHT && pane instanceof Thought) {
-            return Integer.bitCount(room.stepsSeenAs(pane, place, 0));
-        }
-        if (kind == LIMP && pane instanceof Limp limp) {
-            return limp.placesToLimp(place);
-        }
-        if (kind == FRIEND && pane instanceof Friend) {
-            return room.seen(pane, place, 0);
-        }
-        return refuse(UNLIKE);
     }
 
     public int habit(int step) {
@@ -615,8 +609,8 @@ public final class LimpMirror {
             case 1: return room.terms();
             case 2: return deeds.size();
             case 3: return deeds.howManyBroke(0);
-            case 4: return lateOnes();
-            case 5: return thinOnes();
+            case 4: return glassesOf(LATE);
+            case 5: return glassesOf(THIN);
             case 6: return howManyThere(rows);
             case 7: return howManyThere(texts);
             case 8: return keptOnes();
@@ -767,20 +761,10 @@ public final class LimpMirror {
         return shown;
     }
 
-    private int lateOnes() {
+    private int glassesOf(int kind) {
         int ones = 0;
         for (int k = 0; k < room.glasses(); k++) {
-            if (paneOf(k) instanceof Late) {
-                ones++;
-            }
-        }
-        return ones;
-    }
-
-    private int thinOnes() {
-        int ones = 0;
-        for (int k = 0; k < room.glasses(); k++) {
-            if (paneOf(k) instanceof Thin) {
+            if (paneOf(k).isOf(kind)) {
                 ones++;
             }
         }
@@ -1129,6 +1113,11 @@ public final class LimpMirror {
             return delay;
         }
 
+        /** Whether it IS of a KIND: its own one, or one that this is a sort of. */
+        boolean isOf(int other) {
+            return other == kind || other == GLASS;
+        }
+
         /** The place (never a later one) of which the STEP is seen at a place; NOWHERE: 0 is SHOWN. */
         int source(int place) {
             return place;
@@ -1152,6 +1141,10 @@ public final class LimpMirror {
         int source(int place) {
             return place < delay() ? NOWHERE : place - delay();
         }
+
+        boolean isOf(int other) {
+            return other == LATE || super.isOf(other);
+        }
     }
 
     private static final class Limp extends Late {
@@ -1163,7 +1156,7 @@ public final class LimpMirror {
             return placesToLimp(place) == 0 ? NOWHERE : super.source(place);
         }
 
-        int placesToLimp(int place) {
+        static int placesToLimp(int place) {
             return 2 - place % 3;
         }
     }
@@ -1175,6 +1168,10 @@ public final class LimpMirror {
 
         int source(int place) {
             return isOdd(place) ? NOWHERE : place;
+        }
+
+        boolean isOf(int other) {
+            return other == THIN || super.isOf(other);
         }
     }
 

@@ -67,6 +67,9 @@ public final class DeedsTest {
         c.asked("no deeds", x, x.broken(), 0, LimpMirror.NONE);
         Checks.steps(x, 0, 5, 3, 0, 1);
         c.asked("two", x, x.broken(), 2, 1);
+        x.undo(0);
+        Checks.steps(x, 0, 1, 0);
+        c.asked("the very first", x, x.broken(), 1, 0);
     }
 
     private static void undo() {
@@ -108,7 +111,18 @@ public final class DeedsTest {
         c.found("on(1)", x, x.on(1), Checks.NOTHING);
         Checks.steps(x, 0, 5);
         c.due("keep over", x.keep(2), 1);
+        x.undo(0);
+        Checks.steps(x, 0, 3);
         c.due("on what was kept over", x.on(2), 1);
         c.asked("deed(0, 0)", x, x.deed(0, 0), 1, 5);
+        x.lots(20, 3);
+        x.lots(19, 4);
+        c.due("keep forty", x.keep(1), 40);
+        digest = x.digest();
+        x.undo(0);
+        x.lots(20, 5);
+        x.lots(20, 6);
+        c.due("on forty", x.on(1), 40);
+        c.due("forty as they were kept", x.digest(), digest);
     }
 }

@@ -98,7 +98,9 @@ public final class RoomsTest {
         c.due("no glasses yet", x.count(0), 0);
         c.due("room(0)", x.room(0), 2);
         x.step(0, 1);
+        x.keep(0);
         x.keep(1);
+        x.keep(2);
         x.row(0, 2);
         c.due("room of a fault again", x.room(1), LimpMirror.STATE);
         c.due("fault(1)", x.fault(1), 11);
@@ -106,7 +108,7 @@ public final class RoomsTest {
         c.due("habit as it was", x.habit(0), 1);
         c.due("terms as they were", x.count(1), 1);
         c.due("deeds as they were", x.count(2), 1);
-        c.due("kept as it was", x.count(8), 1);
+        c.due("kept as it was", x.count(8), 3);
         Checks.write(x, 1, "h543210l3");
         c.due("room(1)", x.room(1), 1);
         c.due("no terms", x.count(1), 0);

@@ -100,6 +100,8 @@ public final class ToldTest {
         for (int what = 0; what <= 8; what++) {
             c.due("count(" + what + ")", x.count(what), want[what]);
         }
+        c.due("a late one first", Checks.roomOf("h000000l0g0").count(4), 1);
+        c.due("a thin one first", Checks.roomOf("h000000f0g0").count(5), 1);
         c.due("count(-1)", x.count(-1), LimpMirror.BAD);
         c.due("count(9)", x.count(9), LimpMirror.BAD);
     }

@@ -27,7 +27,17 @@ public final class TurnsTest {
         x = Checks.roomOf("h000000l3n00n10n20n30n40n50");
         c.told("none can be", x, x.keeps(0, 5), 0, 1);
         c.due("no first", x.asked(), 0);
+        x = Checks.roomOf("h000000t0n00n10n20n30n40n50");
+        c.told("some of one", x, x.keeps(0, 1), 5, 1);
+        c.due("first of one", x.asked(), 62);
+        c.told("none of two", x, x.keeps(0, 2), 0, 1);
+        c.due("no first of two", x.asked(), 0);
+        x.keeps(0, 1);
+        c.told("of none, behind one", x, x.keeps(0, 0), 1, 1);
+        c.due("first of none, behind one", x.asked(), 0);
         x = Checks.roomOf("h000000l1n02n12n22n32n42n52");
+        c.told("of none, behind others", x, x.keeps(0, 0), 1, 1);
+        c.due("first of none, behind others", x.asked(), 0);
         c.told("1 but at the end", x, x.keeps(0, 2), 30, 1);
         c.due("not 1 first", x.asked(), 63 - 2);
         for (int bad : new int[] {-1, 6}) {
@@ -75,6 +85,15 @@ public final class TurnsTest {
         c.due("two turns: 0", x.picks(2), 0);
         x = Checks.roomOf("h000000g0l1n00n11n21n12n15n55n44");
         c.due("3 alone goes on", x.picks(2), 3);
+        x = Checks.roomOf("h000000l1n00n02n12n22n32n42n52");
+        c.due("1 is safe now", x.picks(1), 1);
+        c.due("but not at the second turn", x.picks(2), 2);
+        c.due("nor at the second of three", x.picks(3), 2);
+        x = Checks.roomOf("h000000g0t0n00n10n20n30n40n50");
+        c.due("1 is safe at an even turn", x.picks(1), 1);
+        c.due("none is at an odd one", x.picks(2), LimpMirror.NONE);
+        c.due("the first turn can be won", x.game(1), 1);
+        c.due("the second one can't", x.game(2), 0);
         for (int bad : new int[] {-1, 4}) {
             c.due("game(" + bad + ")", x.game(bad), LimpMirror.BAD);
             c.due("picks(" + bad + ")", x.picks(bad), LimpMirror.BAD);
