@@ -1,3 +1,5 @@
+import java.util.function.IntSupplier;
+
 /** What the tests share: answers that are due, rooms and rows made in one line. */
 final class Checks {
     static final int NOTHING = 1, BEYOND = 2, UNLIKE = 3, NOUGHT = 4, SIZE = 5;
@@ -5,23 +7,77 @@ final class Checks {
     /** A room with a glass of each kind (0 .. 5) and four terms. */
     static final String FAIR = "h301254 g0 l2 t0 o0 i1 f0 n12 n30 n00 n55";
 
+    private String about = "";
     private int wrong = 0;
     private int done = 0;
+
+    /** What the answers from here on are about: it is told with each one that is not as due. */
+    void about(String what) {
+        about = what;
+    }
+
+    int done() {
+        return done;
+    }
 
     void due(String call, long got, long want) {
         done++;
         if (got != want) {
-            wrong++;
-            System.out.println(call + " answered " + got + ", due is " + want);
+            wrong(call + " answered " + got + ", due is " + want);
         }
     }
 
     void due(String call, String got, String want) {
         done++;
         if (!got.equals(want)) {
-            wrong++;
-            System.out.println(call + " answered " + got + ", due is " + want);
+            wrong(call + " answered " + got + ", due is " + want);
         }
+    }
+
+    void wrong(String what) {
+        wrong++;
+        System.out.println(about + what);
+    }
+
+    void bad(String call, LimpMirror x, IntSupplier made) {
+        refused(call, x, made, LimpMirror.BAD, 0);
+    }
+
+    void full(String call, LimpMirror x, IntSupplier made) {
+        refused(call, x, made, LimpMirror.FULL, 0);
+    }
+
+    void state(String call, LimpMirror x, IntSupplier made) {
+        refused(call, x, made, LimpMirror.STATE, 0);
+    }
+
+    void finds(String call, LimpMirror x, IntSupplier made, int finding) {
+        refused(call, x, made, LimpMirror.FINDING, finding);
+    }
+
+    /** NONE is no refusal, but it changes nothing either, where no more is told. */
+    void none(String call, LimpMirror x, IntSupplier made) {
+        refused(call, x, made, LimpMirror.NONE, 0);
+    }
+
+    /** What is refused changes nothing but finding() and findings(), and these by a FINDING alone. */
+    private void refused(String call, LimpMirror x, IntSupplier made, int answer, int finding) {
+        String before = toldBy(x);
+        int latest = x.finding();
+        int[] often = new int[SIZE + 1];
+        for (int f = NOTHING; f <= SIZE; f++) {
+            often[f] = x.findings(f);
+        }
+        due(call, made.getAsInt(), answer);
+        due("what is told behind " + call, toldBy(x), before);
+        due("finding() behind " + call, x.finding(), finding == 0 ? latest : finding);
+        for (int f = NOTHING; f <= SIZE; f++) {
+            due("findings(" + f + ") behind " + call, x.findings(f), often[f] + (f == finding ? 1 : 0));
+        }
+    }
+
+    private static String toldBy(LimpMirror x) {
+        return x.digest() + " " + x.asked() + " " + x.upper() + "/" + x.lower();
     }
 
     /** The call that has just answered must have been refused by this finding. */
@@ -64,6 +120,28 @@ final class Checks {
             throw new IllegalStateException("no room: " + text);
         }
         return x;
+    }
+
+    /** A new object by which asked() tells 77, so that a change of it is seen; no row is there. */
+    static LimpMirror fresh() {
+        LimpMirror x = new LimpMirror();
+        tell77(x);
+        return x;
+    }
+
+    /** A room in which asked() tells 77 and upper(), lower() 5 by 12, if 1 breaks a term; no row is there. */
+    static LimpMirror told(String text) {
+        LimpMirror x = roomOf(text);
+        fill(x, 5, 1);
+        x.odds(0, 5, 5);
+        tell77(x);
+        return x;
+    }
+
+    private static void tell77(LimpMirror x) {
+        fill(x, 5, 77);
+        x.at(5, 0);
+        x.tear(5);
     }
 
     static void fill(LimpMirror x, int r, int... values) {

@@ -163,7 +163,7 @@ public final class TurnsTest {
         c.due("lots(20, 77)", x.lots(20, 77), y.count(3) - 2);
         c.due("truly done", x.digest(), y.digest());
         c.due("deeds", x.count(2), 22);
-        // 48271 % 2 is glass 1, 48271 / 8 % 6 is step 3; the second lot is 182605794: 0, and 0
+        // 48271 % 2 is glass 1, 48271 / 8 % 6 is step 3; the second lot is 182605794: 0, and 2
         x = Checks.roomOf("h000000g0o0n30");
         c.due("seed 1", x.lots(2, 1), 1);
         c.asked("glass of lot 0", x, x.deed(0, 1), 1, 1);
