@@ -326,6 +326,27 @@ public final class DeedsEdgesTest {
         c.due("as it was, again", x.digest(), digest);
     }
 
+    @Edge(promise = 21, says = "The ROOM is as it was kept: how many DEEDS")
+    static void onOfNoneAndOfForty() {
+        LimpMirror x = Checks.roomOf("h000000g0n12");
+        x.keep(0);
+        for (int i = 0; i < 40; i++) {
+            x.step(0, i % 6);
+        }
+        x.keep(1);
+        x.undo(0);
+        for (int i = 0; i < 40; i++) {
+            x.step(0, 5);
+        }
+        c.due("on forty", x.on(1), 40);
+        for (int i = 0; i < 40; i++) {
+            c.asked("step of deed " + i, x, x.deed(i, 0), 1, i % 6);
+        }
+        c.asked("the last one's term", x, x.deed(37, 3), 1, 0);
+        c.due("on none", x.on(0), 0);
+        c.due("no deeds", x.count(2), 0);
+    }
+
     @Edge(promise = 21, says = "The ROOM is as it was kept")
     static void onThenDoOnLeavesWhatIsKept() {
         LimpMirror x = Checks.roomOf("h000000l1n30");

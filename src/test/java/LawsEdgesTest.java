@@ -128,6 +128,8 @@ public final class LawsEdgesTest {
         c.asked("late by 3, limp by 3, not told", x, x.next(0, 1), 0, 2);
         LimpMirror y = shown("h301254g0n12", "12345", "00021");
         c.asked("told, whatever he does", y, y.next(0, 1), 0, 1);
+        LimpMirror z = shown("h301254g0n12", "113", "000");
+        c.asked("late by 3, limp by 2, by 3, of what was done", z, z.next(0, 1), 0, 3);
     }
 
     @Edge(promise = 30, says = "the most that SHOW one thing then are as few as can be (the least such STEP)")

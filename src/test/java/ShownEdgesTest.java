@@ -150,6 +150,11 @@ public final class ShownEdgesTest {
         Checks.fill(y, 0, 5);
         y.at(0, 0);
         c.asked("without terms", y, y.breaks(0, 0), LimpMirror.NONE, 0);
+        LimpMirror z = Checks.told("h000000g0n00");
+        z.row(0, 0);
+        c.asked("of none, though still breaks one", z, z.breaks(0, 0), LimpMirror.NONE, 0);
+        Checks.fill(z, 0, "333333333333");
+        c.asked("nor behind the last of twelve", z, z.breaks(0, 0), LimpMirror.NONE, 0);
     }
 
     @Edge(promise = 23, says = "The first place of DOINGS at which a TERM is BROKEN before a GLASS; how many places by asked()")

@@ -27,6 +27,8 @@ public final class TurnsEdgesTest {
         LimpMirror x = Checks.told("h000000g0l3" + NO_GLASS);
         keeps(x, 0, 0, 1, 0);
         keeps(x, 1, 0, 1, 0);
+        keeps(x, 1, 1, 5, 62);
+        keeps(x, 1, 0, 1, 0);
     }
 
     @Edge(promise = 32, says = "How many DOINGS of n (0 .. 5) STEPS")
@@ -61,6 +63,8 @@ public final class TurnsEdgesTest {
         keeps(y, 0, 2, 30, 31);
         LimpMirror z = Checks.told("h000000g0n12n21n33n44n55");
         keeps(z, 0, 5, 1, 1);
+        LimpMirror w = Checks.told("h000000t0n12n21n33n44n55");
+        keeps(w, 0, 2, 6, 1);
     }
 
     @Edge(promise = 32, says = "BAD")
@@ -95,6 +99,22 @@ public final class TurnsEdgesTest {
         for (int k = 0; k <= 2; k++) {
             c.due("of none before " + k, x.still(k, 0), 0);
         }
+    }
+
+    @Edge(promise = 33, says = "that must be still (STEP 0) in DOINGS that break no TERM")
+    static void stillForWhatIsShownLater() {
+        LimpMirror x = Checks.told("h000000l2l1i1n10n20n30n40n50");
+        c.due("still at two, then for ever", x.still(0, 5), 5);
+        c.due("still at one, then for ever", x.still(1, 5), 5);
+        c.due("a limp", x.still(2, 5), 5);
+        LimpMirror y = Checks.told("h000000l1n10n20n30n40n00n03");
+        c.due("5 first, then what goes on", y.still(0, 5), 0);
+        LimpMirror z = Checks.told("h000000l1n50n40n30n20n10n11n12");
+        c.due("still at first, then still", z.still(0, 2), 2);
+        LimpMirror w = Checks.told("h000000l1n13n23n33n43n53n50n40n20");
+        c.due("3 first, still behind it; 1 first, free behind it", w.still(0, 2), 0);
+        LimpMirror v = Checks.told("h000000l3n30n01n50n40n41n10n42");
+        c.due("2 thrice, then 5 twice", v.still(0, 5), 0);
     }
 
     @Edge(promise = 33, says = "NONE: there are no such DOINGS")
@@ -284,6 +304,9 @@ public final class TurnsEdgesTest {
         c.told("by 5 of 12", x, x.odds(0, 0, 5), 244140625L, 8916100448256L);
         c.told("by 11 of 12", x, x.odds(0, 0, 11), 3138428376721L, 8916100448256L);
         c.told("by 1 of 12", x, x.odds(0, 0, 1), 1, 8916100448256L);
+        LimpMirror y = Checks.told("h000000g0n00");
+        y.row(0, 0);
+        c.told("of none, though still breaks one", y, y.odds(0, 0, 5), 1, 1);
     }
 
     @Edge(promise = 36, says = "BAD")
@@ -344,6 +367,9 @@ public final class TurnsEdgesTest {
         c.told("all twelve", x, x.mid(0, 0, 0), 12, 1);
         c.told("by 5 of 12", x, x.mid(0, 0, 5), 7, 1);
         c.told("all wet", x, x.mid(0, 0, 12), 0, 1);
+        LimpMirror y = Checks.told("h000000g0n00");
+        y.row(0, 0);
+        c.told("of none, though still breaks one", y, y.mid(0, 0, 5), 0, 1);
     }
 
     @Edge(promise = 37, says = "in lowest terms, the lower number above 0 (0 by 1)")
