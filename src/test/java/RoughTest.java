@@ -10,15 +10,26 @@ public final class RoughTest {
     private static final Checks c = new Checks();
     private static final int[] EDGES = {Integer.MIN_VALUE, Integer.MAX_VALUE, -9, -1, 6, 7, 12, 13, 40, 41, 60, 61};
 
+    private static final int CALLS = 25;
+
     private final Random random;
-    private LimpMirror x = new LimpMirror();
+    private final LimpMirror x = new LimpMirror();
 
     private RoughTest(long seed) {
         random = new Random(seed);
+        if (random.nextInt(8) > 0) {
+            Checks.write(x, 0, "h0" + random.nextInt(6) + "34" + random.nextInt(6) + "0 g1 l" + random.nextInt(4)
+                    + "t0o2i" + random.nextInt(4) + "f0 n12 n00 n" + random.nextInt(6) + "0");
+            x.room(0);
+            x.lots(20, 1 + random.nextInt(1000));
+        }
+        for (int r = 0; r < 3; r++) {
+            Checks.fill(x, r, Integer.toString(random.nextInt(216), 6));
+        }
     }
 
     public static void main(String[] args) {
-        for (int seed = 1; seed <= 300; seed++) {
+        for (int seed = 1; seed <= 5000; seed++) {
             new RoughTest(seed).run();
         }
         madeNothing();
@@ -33,31 +44,22 @@ public final class RoughTest {
         return kind == 1 ? EDGES[random.nextInt(EDGES.length)] : random.nextInt(below + 1) - (kind == 2 ? 1 : 0);
     }
 
+    /** Few enough calls that an object is not used for more than 512 in all. */
     private void run() {
-        String text = "  h0" + random.nextInt(6) + "34" + random.nextInt(6) + "0 g1 l" + random.nextInt(4)
-                + "t0o2i" + random.nextInt(4) + "f0 n12 n00 n" + random.nextInt(6) + "0";
-        if (random.nextInt(8) > 0) {
-            Checks.write(x, 0, text);
-            x.room(0);
-        }
-        for (int i = 0; i < 450; i++) {
-            int which = random.nextInt(36);
+        for (int i = 0; i < CALLS; i++) {
             long digest = x.digest();
             int asked = x.asked();
-            long upper = x.upper();
-            long lower = x.lower();
             int findings = findings();
+            int which = random.nextInt(36);
             int got = call(which);
             if (got < 0) {
                 c.due("digest() behind refused call " + which, x.digest(), digest);
-                c.due("upper() behind refused call " + which, x.upper(), upper);
-                c.due("lower() behind refused call " + which, x.lower(), lower);
                 // of the answers below 0 only the NONE of breaks (22) tells anything
                 c.due("asked() behind refused call " + which, x.asked(), got == -9 && which == 22 ? 0 : asked);
             }
             c.due("findings behind call " + which, findings(), findings + (got == LimpMirror.FINDING ? 1 : 0));
-            bounds();
         }
+        bounds();
     }
 
     private int findings() {
@@ -123,18 +125,29 @@ public final class RoughTest {
         com.sun.management.ThreadMXBean threads =
                 (com.sun.management.ThreadMXBean) ManagementFactory.getThreadMXBean();
         long thread = Thread.currentThread().getId();
-        RoughTest rough = new RoughTest(7);
-        Checks.write(rough.x, 0, Checks.FAIR);
-        rough.x.room(0);
-        for (int i = 0; i < 20000; i++) {
-            rough.call(i % 36);
-        }
+        RoughTest[] warm = someOf(1);
+        RoughTest[] cold = someOf(1 + warm.length);
+        callAll(warm);
         long before = threads.getThreadAllocatedBytes(thread);
-        for (int i = 0; i < 20000; i++) {
-            rough.call(i % 36);
-            rough.x.digest();
-        }
+        callAll(cold);
         long made = threads.getThreadAllocatedBytes(thread) - before;
         c.due("20000 calls make no objects to speak of", made < 20000 ? 0 : made, 0);
+    }
+
+    private static RoughTest[] someOf(int seed) {
+        RoughTest[] some = new RoughTest[50];
+        for (int i = 0; i < some.length; i++) {
+            some[i] = new RoughTest(seed + i);
+        }
+        return some;
+    }
+
+    private static void callAll(RoughTest[] some) {
+        for (RoughTest rough : some) {
+            for (int i = 0; i < 200; i++) {
+                rough.call(i % 36);
+                rough.x.digest();
+            }
+        }
     }
 }
