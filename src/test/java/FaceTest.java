@@ -4,7 +4,6 @@ import java.lang.reflect.Method;
 import java.lang.reflect.Modifier;
 import java.nio.file.Files;
 import java.nio.file.Path;
-import java.util.ArrayList;
 import java.util.Arrays;
 import java.util.List;
 import java.util.TreeSet;
@@ -29,6 +28,10 @@ public final class FaceTest {
         "->", "::", "\\bimport\\b", "\\bpackage\\b", "@", "\\bprotected\\b", "\\bdouble\\b.*%",
         "static \\{", "[^\\x00-\\x7f]", "\\bequals\\b", "\\bhashCode\\b", "\\btoString\\b", "Exact\\b",
     };
+
+    /** Of what rule 4 of LANGUAGE.md lets in, all that the class needs; one more is looked up there first. */
+    private static final List<String> LIBRARY = List.of("java/lang/Object.<init>", "java/lang/Integer.bitCount",
+            "java/lang/Math.max", "java/lang/Math.min", "java/lang/System.arraycopy");
 
     public static void main(String[] args) throws Exception {
         methods();
@@ -59,16 +62,9 @@ public final class FaceTest {
     }
 
     private static void membersBeside() {
-        List<String> names = new ArrayList<>();
-        for (String call : CALLS) {
-            names.add(call.split(" ")[0]);
-        }
         for (Method m : LimpMirror.class.getDeclaredMethods()) {
             int flags = m.getModifiers();
             c.due(m + " is public or private", Modifier.isPublic(flags) || Modifier.isPrivate(flags) ? 1 : 0, 1);
-            boolean twice = Modifier.isPrivate(flags) && names.contains(m.getName());
-            c.due(m + " bears no public name", twice ? 1 : 0, 0);
-            c.due(m + " takes seven at most", m.getParameterCount() <= 7 ? 1 : 0, 1);
         }
         Constructor<?>[] made = LimpMirror.class.getDeclaredConstructors();
         c.due("constructors", made.length, 1);
@@ -81,11 +77,9 @@ public final class FaceTest {
     private static void constants() {
         TreeSet<String> open = new TreeSet<>();
         for (Field f : LimpMirror.class.getDeclaredFields()) {
-            int flags = f.getModifiers();
-            if (!Modifier.isPrivate(flags)) {
+            if (!Modifier.isPrivate(f.getModifiers())) {
                 open.add(f.getName());
             }
-            c.due(f + ": static fields are final", Modifier.isStatic(flags) && !Modifier.isFinal(flags) ? 1 : 0, 0);
         }
         c.due("the constants", open.toString(), "[BAD, FINDING, FULL, NONE, SPENT, STATE]");
         int[] got = {LimpMirror.BAD, LimpMirror.FULL, LimpMirror.FINDING, LimpMirror.STATE, LimpMirror.SPENT,
@@ -93,13 +87,33 @@ public final class FaceTest {
         c.due("what they are", Arrays.toString(got), "[-1, -2, -3, -4, -6, -9]");
     }
 
-    private static void nested() {
+    private static void nested() throws Exception {
         Class<?>[] all = LimpMirror.class.getDeclaredClasses();
         c.due("twelve classes at most", all.length + 1 <= 12 ? 1 : 0, 1);
         for (Class<?> one : all) {
             c.due(one + " is static", Modifier.isStatic(one.getModifiers()) ? 1 : 0, 1);
             c.due(one + " is not public", Modifier.isPublic(one.getModifiers()) ? 1 : 0, 0);
             c.due(one + " has no class inside", one.getDeclaredClasses().length, 0);
+            insideOf(one);
+        }
+        insideOf(LimpMirror.class);
+    }
+
+    private static void insideOf(Class<?> one) throws Exception {
+        for (String used : ClassFile.of(one).membersUsed("LimpMirror")) {
+            c.due(one + " uses " + used + ", which rule 4 lets in", LIBRARY.contains(used) ? 1 : 0, 1);
+        }
+        int fields = 0;
+        for (Field f : one.getDeclaredFields()) {
+            int flags = f.getModifiers();
+            fields += Modifier.isStatic(flags) ? 0 : 1;
+            c.due(f + ": static fields are final", Modifier.isStatic(flags) && !Modifier.isFinal(flags) ? 1 : 0, 0);
+        }
+        c.due(one + " has twenty fields at most", fields <= 20 ? 1 : 0, 1);
+        for (Method m : one.getDeclaredMethods()) {
+            boolean isFace = Arrays.stream(CALLS).anyMatch(call -> call.split(" ")[0].equals(m.getName()));
+            c.due(m + " bears no public name", isFace && Modifier.isPrivate(m.getModifiers()) ? 1 : 0, 0);
+            c.due(m + " takes seven at most", m.getParameterCount() <= 7 ? 1 : 0, 1);
         }
     }
 
