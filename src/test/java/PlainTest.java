@@ -19,7 +19,9 @@ public final class PlainTest {
     private static final Checks c = new Checks();
     private static final Path DOCUMENT = Path.of("../shared/DOC.md");
     private static final int CALLS_MOST = 512, RUNS = 800;
-    private static final int[] WILD = {Integer.MIN_VALUE, -2147483647, -7, -2, -1, 6, 7, 13, 41, 61, Integer.MAX_VALUE};
+    private static final int[] WILD = {
+        Integer.MIN_VALUE, -2147483647, -7, -2, -1, 1, 4, 6, 7, 13, 40, 41, 60, 61, 2147483646, Integer.MAX_VALUE,
+    };
     private static final String[] FINDINGS = {"", "NOTHING", "BEYOND", "UNLIKE", "NOUGHT", "SIZE"};
 
     /** Of each call what its numbers are: a row, a text, a glass, a step, .. (see number()). */
@@ -72,9 +74,13 @@ public final class PlainTest {
             if (what == 0) {
                 writeRoom();
             } else if (what < 5) {
-                layRow();
+                layRow(random.nextInt(6));
             } else if (what == 5) {
                 both("lots", 10 + random.nextInt(11), 1 + random.nextInt(2147483646));
+            } else if (what == 6) {
+                lookThrough();
+            } else if (what == 7) {
+                keepAndGoOn();
             } else {
                 anyCall();
             }
@@ -89,11 +95,13 @@ public final class PlainTest {
         for (int step = 0; step < 6; step++) {
             text.append(random.nextInt(6));
         }
-        for (int many = 1 + random.nextInt(6); many > 0; many--) {
+        for (int many = 1 + random.nextInt(random.nextInt(6) == 0 ? 7 : 6); many > 0; many--) {
             text.append(blanks()).append("gltoif".charAt(random.nextInt(6))).append(random.nextInt(4));
         }
-        for (int many = random.nextInt(9); many > 0; many--) {
-            text.append(blanks()).append('n').append(random.nextInt(6)).append(random.nextInt(2) * random.nextInt(6));
+        int hard = random.nextInt(8);
+        int terms = hard < 3 ? 5 + random.nextInt(3) : random.nextInt(10);
+        for (int n = 0; n < terms; n++) {
+            text.append(blanks()).append('n').append(hard < 3 ? hardTerm(n % 6, hard) : anyTerm());
         }
         text.append(blanks());
         while (random.nextInt(4) == 0) {
@@ -111,6 +119,16 @@ public final class PlainTest {
         both("room", t);
     }
 
+    private String anyTerm() {
+        return "" + random.nextInt(6) + random.nextInt(2) * random.nextInt(6);
+    }
+
+    /** One that a step breaks before many glasses, so that there may be no way through. */
+    private String hardTerm(int step, int hard) {
+        boolean isNought = hard == 2 ? random.nextBoolean() : hard == 1;
+        return step + (isNought ? "0" : "021345".substring(step, step + 1));
+    }
+
     private String blanks() {
         return " ".repeat(random.nextInt(3) * random.nextInt(2));
     }
@@ -126,9 +144,38 @@ public final class PlainTest {
         }
     }
 
-    private void layRow() throws Exception {
+    /** What one glass shows of a row, so that rows belong together. */
+    private void lookThrough() throws Exception {
         int r = random.nextInt(6);
-        int size = random.nextInt(8) == 0 ? 11 + random.nextInt(3) : random.nextInt(6);
+        int q = random.nextInt(6);
+        int k = number("glass");
+        layRow(r);
+        both("show", k, r, q);
+        both("laws", r, q);
+        both("next", r, q);
+        both("he", k, r, q);
+        both("asked");
+        both("ways", k, q);
+        both("first", k, q, r);
+        both("can", k, q, random.nextInt(7));
+    }
+
+    private void keepAndGoOn() throws Exception {
+        int deeds = plain.count(2);
+        both("lots", random.nextBoolean() && deeds < 40 && deeds >= 20 ? 40 - deeds : 1 + random.nextInt(3), 1);
+        both("keep", 0);
+        both("undo", random.nextInt(2));
+        both("keep", 1 + random.nextInt(2));
+        both("step", number("glass"), number("step"));
+        both("digest");
+        both("on", random.nextInt(3));
+        both("digest");
+        both("on", 0);
+    }
+
+    private void layRow(int r) throws Exception {
+        int[] sizes = {0, 1, 2, 3, 4, 5, 6, 7, 11, 12, 13};
+        int size = random.nextInt(4) == 0 ? sizes[random.nextInt(sizes.length)] : random.nextInt(5);
         int below = 1 + random.nextInt(6);
         both("row", r, size);
         for (int i = 0; i < size; i++) {
@@ -156,7 +203,7 @@ public final class PlainTest {
     private int number(String kind) {
         switch (kind) {
             case "row": return random.nextInt(6);
-            case "text": return random.nextInt(4);
+            case "text": return random.nextInt(random.nextInt(8) == 0 ? 5 : 4);
             case "glass": return random.nextInt(random.nextInt(8) == 0 ? 7 : Math.max(1, plain.count(0)));
             case "deed": return random.nextInt(random.nextInt(4) == 0 ? 42 : Math.max(2, plain.count(2) + 1));
             case "step": return random.nextInt(random.nextInt(8) == 0 ? 7 : 6);
@@ -212,10 +259,14 @@ public final class PlainTest {
     private void see(String name, long answer) {
         if (answer == LimpMirror.FINDING) {
             SEEN.add(name + " " + FINDINGS[plain.finding()]);
-        } else if (answer == LimpMirror.NONE || answer >= 0 && plain.asked() == LimpMirror.NONE) {
+        } else if (answer == LimpMirror.NONE || answer >= 0 && tellsNone(name)) {
             SEEN.add(name + " NONE");
         }
         SEEN.add(name + (answer == -1 ? " BAD" : answer == -2 ? " FULL" : answer == -4 ? " STATE" : " answered"));
+    }
+
+    private boolean tellsNone(String name) {
+        return List.of("deed", "broken", "fit", "he").contains(name) && plain.asked() == LimpMirror.NONE;
     }
 
     private static void lookAtRefusals() throws Exception {
